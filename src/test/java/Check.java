@@ -9,33 +9,40 @@ final class Check {
     static final int REFUSED = -1000010;
 
     private static int wrong = 0;
+    private static String test = "";
 
     private Check() {
     }
 
+    /** What is printed before each wrong answer from now on. */
+    static void named(String name) {
+        test = name;
+    }
+
     static void due(String call, long got, long want) {
         if (got != want) {
-            wrong++;
-            System.out.println(call + " answered " + got + ", due is " + want);
+            tell(call + " answered " + got + ", due is " + want);
         }
     }
 
     static void dueDouble(String call, double got, double want) {
         if (Double.compare(got, want) != 0) {
-            wrong++;
-            System.out.println(call + " answered " + got + ", due is " + want);
+            tell(call + " answered " + got + ", due is " + want);
         }
+    }
+
+    private static void tell(String fault) {
+        wrong++;
+        System.out.println(test + fault);
     }
 
     static void dueThrow(String call, ResampledRows x, int row, int i) {
         try {
             int got = x.history(row, i);
-            wrong++;
-            System.out.println(call + " answered " + got + ", due is ArrayIndexOutOfBoundsException");
+            tell(call + " answered " + got + ", due is ArrayIndexOutOfBoundsException");
         } catch (ArrayIndexOutOfBoundsException e) {
             if (e.getClass() != ArrayIndexOutOfBoundsException.class || thrownByMachine(e)) {
-                wrong++;
-                System.out.println(call + " was thrown by the machine: " + e);
+                tell(call + " was thrown by the machine: " + e);
             }
         }
     }
